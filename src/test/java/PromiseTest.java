@@ -68,11 +68,13 @@ public final class PromiseTest {
         place();
         ill();
         now();
+        usualNeedByAges();
         ratioSigns();
         ratioEdges();
         lacking();
         moves();
         movesInOrder();
+        movesOfSeven();
         moved();
         move();
         roll();
@@ -87,6 +89,7 @@ public final class PromiseTest {
         waits();
         list();
         earliest();
+        earliestByDays();
         admit();
         places();
         rate();
@@ -98,6 +101,7 @@ public final class PromiseTest {
         copy();
         undo();
         undoEach();
+        undoOfMore();
         all();
         DUE.end();
     }
@@ -499,6 +503,19 @@ public final class PromiseTest {
         due(2 * (1 + 1 + 1), x.now(0, 2));
     }
 
+    private static void usualNeedByAges() {
+        int[][] needs = {{0, 2, 2, 2, 4, 4, 4, 6, 6, 6, 8}, {30, 2, 2, 2, 2, 4, 4, 4, 4, 6, 6}, {50, 2, 2, 2, 2, 2, 2, 2, 2, 4, 4}};
+        for (int[] each : needs) {
+            begin(17);
+            x.room(71, 20);
+            for (int c = 0; c < 10; c++) {
+                x.child(-each[0], -1, 31, 60);
+                x.in(c, 0);
+                due(each[c + 1], x.now(0, 2));
+            }
+        }
+    }
+
     private static void ratioSigns() {
         begin(17);
         x.room(71, 20);
@@ -520,7 +537,7 @@ public final class PromiseTest {
             due(number, x.now(0, 2));
         }
         int[][] joined = {{49, 15, 50, 44}, {49, 15, 51, 34}, {15, 49, 51, 0}, {49, 15, 52, 195},
-            {49, 15, 53, 8}, {20, 15, 53, 2}, {21, 15, 53, 3}, {15, 10, 53, 0}, {10, 15, 53, 0},
+            {49, 15, 53, 8}, {20, 15, 53, 2}, {21, 15, 53, 3}, {15, 10, 53, 0}, {10, 15, 53, 0}, {49, 11, 53, 39},
             {49, 15, 54, 39}, {15, 49, 54, 39}};
         for (int[] each : joined) {
             ratio(each[0], each[1], each[2]);
@@ -627,6 +644,49 @@ public final class PromiseTest {
         due(NONE, x.moves());
         ratio(12);
         due(1, x.moves());
+    }
+
+    /** All hands and rooms: who stays, who is elsewhere, and who goes first. */
+    private static void movesOfSeven() {
+        begin(19);
+        for (int r = 0; r < 5; r++) {
+            x.room(71, 9);
+        }
+        hands(1, 1, 1, 1, 1, 1, 1);
+        children(1, 2, 3, 4, 5);
+        for (int c = 0; c < 5; c++) {
+            x.in(c, c);
+        }
+        movesAre(5, -1, -1, 0, 1, 2, 3, 4);
+        for (int h = 0; h < 7; h++) {
+            x.place(h, 4);
+        }
+        movesAre(4, 0, 1, 2, 3, 4, 4, 4);
+        x.place(6, 0);
+        movesAre(3, 1, 2, 3, 4, 4, 4, 0);
+        x.place(5, 1);
+        x.place(4, -1);
+        movesAre(2, 2, 3, 4, 4, -1, 1, 0);
+        ratio(5, 11, 53, 12, 50);
+        movesAre(NONE, NONE, NONE, NONE, NONE, NONE, NONE, NONE);
+        ratio(5, 11, 53, 12, 51);
+        movesAre(2, 2, 3, 4, 4, -1, 1, 0);
+        ratio(5, 13, 51, 14, 52);
+        x.place(4, 3);
+        x.place(0, 3);
+        movesAre(1, 2, 4, 4, 4, 3, 1, 0);
+        x.ill(1);
+        movesAre(1, 2, NONE, 4, 4, 3, 1, 0);
+        x.undo();
+        x.undo();
+        movesAre(1, 2, 4, 4, 4, 3, 1, 0);
+    }
+
+    private static void movesAre(int count, int... rooms) {
+        due(count, x.moves());
+        for (int h = 0; h < rooms.length; h++) {
+            due(rooms[h], x.moved(h));
+        }
     }
 
     private static void moved() {
@@ -1006,8 +1066,25 @@ public final class PromiseTest {
         due(15, x.earliest(4));
         due(5, x.earliest(5));
         due(0, x.earliest(6));
+        due(4, x.all(7));
         due(8, x.undo());
         due(5, x.earliest(2));
+    }
+
+    /** Each day by itself bars. */
+    private static void earliestByDays() {
+        for (int day = 0; day < 5; day++) {
+            begin(32);
+            x.room(71, 1);
+            x.child(0, -1, 1 << day, 60);
+            x.child(0, -1, 1 << day, 60);
+            x.child(0, -1, 31 - (1 << day), 60);
+            x.child(0, -1, 31, 60);
+            due(0, x.admit(0));
+            due(NONE, x.earliest(1));
+            due(0, x.earliest(2));
+            due(NONE, x.earliest(3));
+        }
     }
 
     private static void admit() {
@@ -1278,6 +1355,10 @@ public final class PromiseTest {
     private static void undo() {
         begin(42);
         due(NONE, x.undo());
+        due(36, x.longer(7));
+        due(0, x.undo());
+        due(10, x.rate(7));
+        due(0, x.undo());
         for (int i = 1; i <= 20; i++) {
             x.month(i);
         }
@@ -1347,6 +1428,47 @@ public final class PromiseTest {
         x.in(0, 0);
         x.over(0, 0);
         undone(x.in(0, 0), -1, () -> x.childIs(0, 5));
+    }
+
+    /** What other acts wrote over what was is as it was, too. */
+    private static void undoOfMore() {
+        begin(42);
+        x.room(71, 3);
+        x.undo();
+        due(0, x.room(1020, 1));
+        x.hand(1);
+        x.undo();
+        due(0, x.hand(3));
+        due(KIND, x.as(0, 1));
+        x.child(1, -1, 2, 304);
+        x.undo();
+        due(0, x.child(-15, -1, 31, 60));
+        x.ill(0);
+        due(-1, x.childIs(0, 1));
+        x.undo();
+        due(-1, x.ill(0));
+        x.fetches(0, 0, true);
+        x.in(0, 0);
+        x.slot(57);
+        x.over(0, 0);
+        due(515, x.bill(0, 0, 0, true));
+        x.day();
+        x.slot(3);
+        x.in(0, 0);
+        x.undo();
+        x.undo();
+        x.undo();
+        due(1, x.roll(56, 0));
+        due(0, x.roll(57, 0));
+        due(15, x.bill(0, 31, 0, true));
+        x.waits(0);
+        x.undo();
+        due(1, x.waits(0));
+        ratio(12, 12, 50);
+        due(4, x.now(0, 2));
+        ratio(12);
+        x.undo();
+        due(4, x.now(0, 2));
     }
 
     private static void undone(int answer, int want, java.util.function.IntSupplier after) {
