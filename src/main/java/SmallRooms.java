@@ -1146,10 +1146,11 @@ public final class SmallRooms {
         /** Backwards: a month that doesn't fit bars all that begin in it or ahead. */
         int earliestMonth(int child) {
             int least = NEVER;
-            int when = children.last[child];
-            while (when >= children.first[child] && fits(child, when)) {
+            for (int when = children.last[child]; when >= children.first[child]; when--) {
+                if (!fits(child, when)) {
+                    return least;
+                }
                 least = when;
-                when--;
             }
             return least;
         }
@@ -1316,26 +1317,30 @@ public final class SmallRooms {
         void fill(Hands hands, int room, int need, boolean children) {
             sumCosts(hands, room);
             // Downwards, since a set's new cost is made of the old ones of lesser sets.
-            for (int set = able; set >= 0; set = partBelow(set, able)) {
+            int set = able;
+            for (int left = partsOf(able); left > 0; left--) {
                 least[set] = leastWith(set, need, children);
+                set = (set - 1) & able;
             }
         }
 
         private int leastWith(int set, int need, boolean children) {
             int best = NO_WAY;
-            for (int part = set; part >= 0; part = partBelow(part, set)) {
+            int part = set;
+            for (int left = partsOf(set); left > 0; left--) {
                 boolean enough = worth[part] >= need && (!children || (part & trained) != 0);
                 int others = least[set ^ part];
                 if (enough && others != NO_WAY) {
                     best = Math.min(best, others + cost[part]);
                 }
+                part = (part - 1) & set;
             }
             return best;
         }
 
-        /** The next lesser part of a set, -1 below the empty one. */
-        private static int partBelow(int part, int set) {
-            return part == 0 ? -1 : (part - 1) & set;
+        /** One less, and only the set's own bits, leads from each part to the next lesser one. */
+        private static int partsOf(int set) {
+            return 1 << Integer.bitCount(set);
         }
 
         boolean isPossible() {

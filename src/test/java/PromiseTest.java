@@ -314,6 +314,12 @@ public final class PromiseTest {
         due(-1, x.place(1, 0));
         due(0, x.ill(1));
         due(0, x.day());
+        due(1, x.in(0, 0));
+        due(2, x.in(1, 0));
+        x.sleeps(0, true);
+        due(2, x.day());
+        due(0, x.now(0, 0));
+        due(0, x.childIs(0, 6));
     }
 
     private static void in() {
@@ -1043,6 +1049,8 @@ public final class PromiseTest {
         listIs(7, 6, 3, 2, 0, 4);
         x.admit(4);
         listIs(7, 6, 3, 2, 0);
+        x.admit(0);
+        listIs(2, 7, 6, 3);
     }
 
     private static void earliest() {
@@ -1264,6 +1272,7 @@ public final class PromiseTest {
         due(BEYOND, x.sheet(0, 0, 61));
         due(MISSING, x.put(0, 0, 1));
         due(60, x.sheet(0, 8, 60));
+        due(60, x.proves(0));
         due(0, x.put(0, 59, 1));
         due(SIZE, x.sheet(0, 8, -1));
         due(0, x.put(0, 59, 1));
@@ -1452,12 +1461,15 @@ public final class PromiseTest {
         x.slot(57);
         x.over(0, 0);
         due(515, x.bill(0, 0, 0, true));
+        x.child(-15, -1, 31, 60);
         x.day();
         x.slot(3);
-        x.in(0, 0);
+        x.in(1, 0);
         x.undo();
         x.undo();
         x.undo();
+        due(1, x.roll(0, 0));
+        due(0, x.roll(59, 1));
         due(1, x.roll(56, 0));
         due(0, x.roll(57, 0));
         due(15, x.bill(0, 31, 0, true));
