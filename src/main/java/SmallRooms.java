@@ -153,8 +153,8 @@ public final class SmallRooms {
             case 3: return children.first[child];
             case 4: return children.last[child];
             case 5: return children.room[child];
-            case 6: return oneIf(children.asleep[child]);
-            case 7: return oneIf(children.admitted[child]);
+            case 6: return oneIf(hasBit(children.asleep, child));
+            case 7: return oneIf(hasBit(children.admitted, child));
             case 8: return children.persons[child];
             default: return finding(BEYOND);
         }
@@ -258,7 +258,7 @@ public final class SmallRooms {
         }
         keep();
         int were = nursery.children.persons[child];
-        int are = is ? were | 1 << person : were & ~(1 << person);
+        int are = is ? with(were, person) : without(were, person);
         nursery.children.persons[child] = are;
         return oneIf(are != were);
     }
@@ -267,7 +267,7 @@ public final class SmallRooms {
         if (!nursery.hands.has(hand) || !(room == NOWHERE || nursery.rooms.has(room))) {
             return finding(BEYOND);
         }
-        if (nursery.hands.ill[hand]) {
+        if (hasBit(nursery.hands.ill, hand)) {
             return finding(NONE);
         }
         keep();
@@ -280,13 +280,13 @@ public final class SmallRooms {
         if (!nursery.hands.has(hand)) {
             return finding(BEYOND);
         }
-        if (nursery.hands.ill[hand]) {
+        if (hasBit(nursery.hands.ill, hand)) {
             return finding(TAKEN);
         }
         keep();
         int was = nursery.hands.room[hand];
         nursery.hands.room[hand] = NOWHERE;
-        nursery.hands.ill[hand] = true;
+        nursery.hands.ill = with(nursery.hands.ill, hand);
         return was;
     }
 
@@ -308,7 +308,7 @@ public final class SmallRooms {
         int lack = 0;
         for (int room = 0; room < nursery.rooms.count; room++) {
             if (!hasEnough(room)) {
-                lack |= 1 << room;
+                lack = with(lack, room);
             }
         }
         return lack;
@@ -322,7 +322,7 @@ public final class SmallRooms {
         if (!nursery.hands.has(hand)) {
             return finding(BEYOND);
         }
-        if (nursery.hands.ill[hand] || !planMoves()) {
+        if (hasBit(nursery.hands.ill, hand) || !planMoves()) {
             return finding(NONE);
         }
         return planner.roomFor(hand);
@@ -334,7 +334,7 @@ public final class SmallRooms {
         }
         keep();
         for (int hand = 0; hand < nursery.hands.count; hand++) {
-            if (!nursery.hands.ill[hand]) {
+            if (!hasBit(nursery.hands.ill, hand)) {
                 nursery.hands.room[hand] = planner.roomFor(hand);
             }
         }
@@ -365,10 +365,11 @@ public final class SmallRooms {
             return finding(NONE);
         }
         keep();
-        if (nursery.children.asleep[child] == is) {
+        int were = nursery.children.asleep;
+        nursery.children.asleep = is ? with(were, child) : without(were, child);
+        if (nursery.children.asleep == were) {
             return 0;
         }
-        nursery.children.asleep[child] = is;
         nursery.sleep.lead(nursery.slot, child, is ? FELL_ASLEEP : WOKE);
         return 1;
     }
@@ -377,7 +378,7 @@ public final class SmallRooms {
         if (!nursery.children.has(child)) {
             return finding(BEYOND);
         }
-        if (!nursery.children.asleep[child]) {
+        if (!hasBit(nursery.children.asleep, child)) {
             return finding(NONE);
         }
         keep();
@@ -454,7 +455,7 @@ public final class SmallRooms {
         if (!nursery.children.has(child)) {
             return finding(BEYOND);
         }
-        if (nursery.children.isWaiting(child) || nursery.children.admitted[child]) {
+        if (nursery.children.isWaiting(child) || hasBit(nursery.children.admitted, child)) {
             return finding(TAKEN);
         }
         keep();
@@ -482,7 +483,7 @@ public final class SmallRooms {
         }
         keep();
         nursery.children.first[child] = least;
-        nursery.children.admitted[child] = true;
+        nursery.children.admitted = with(nursery.children.admitted, child);
         nursery.children.removeWaiter(child);
         return least;
     }
@@ -644,7 +645,7 @@ public final class SmallRooms {
         if (!nursery.children.has(child)) {
             return BEYOND;
         }
-        if (nursery.children.admitted[child]) {
+        if (hasBit(nursery.children.admitted, child)) {
             return TAKEN;
         }
         int least = nursery.earliestMonth(child);
@@ -681,6 +682,14 @@ public final class SmallRooms {
 
     private static boolean hasBit(int set, int bit) {
         return (set >> bit & 1) != 0;
+    }
+
+    private static int with(int set, int bit) {
+        return set | 1 << bit;
+    }
+
+    private static int without(int set, int bit) {
+        return set & ~(1 << bit);
     }
 
     private static int oneIf(boolean holds) {
@@ -734,7 +743,8 @@ public final class SmallRooms {
         int count;
         final int[] kind = new int[MOST_HANDS];
         final int[] room = new int[MOST_HANDS];
-        final boolean[] ill = new boolean[MOST_HANDS];
+        /** A set. */
+        int ill;
 
         boolean has(int hand) {
             return hand >= 0 && hand < count;
@@ -743,7 +753,7 @@ public final class SmallRooms {
         int add(int kindOfIt) {
             kind[count] = kindOfIt;
             room[count] = NOWHERE;
-            ill[count] = false;
+            ill = without(ill, count);
             count++;
             return count - 1;
         }
@@ -756,7 +766,7 @@ public final class SmallRooms {
             int set = 0;
             for (int hand = 0; hand < count; hand++) {
                 if (room[hand] == which) {
-                    set |= 1 << hand;
+                    set = with(set, hand);
                 }
             }
             return set;
@@ -776,33 +786,21 @@ public final class SmallRooms {
             int set = 0;
             for (int hand = 0; hand < count; hand++) {
                 if (isUnder(kind[hand], TRAINED)) {
-                    set |= 1 << hand;
+                    set = with(set, hand);
                 }
             }
             return set;
         }
 
         int able() {
-            int set = 0;
-            for (int hand = 0; hand < count; hand++) {
-                if (!ill[hand]) {
-                    set |= 1 << hand;
-                }
-            }
-            return set;
-        }
-
-        void allWell() {
-            for (int hand = 0; hand < count; hand++) {
-                ill[hand] = false;
-            }
+            return (1 << count) - 1 & ~ill;
         }
 
         void become(Hands other) {
             count = other.count;
             System.arraycopy(other.kind, 0, kind, 0, MOST_HANDS);
             System.arraycopy(other.room, 0, room, 0, MOST_HANDS);
-            System.arraycopy(other.ill, 0, ill, 0, MOST_HANDS);
+            ill = other.ill;
         }
     }
 
@@ -815,8 +813,9 @@ public final class SmallRooms {
         final int[] last = new int[MOST_CHILDREN];
         final int[] room = new int[MOST_CHILDREN];
         final int[] persons = new int[MOST_CHILDREN];
-        final boolean[] asleep = new boolean[MOST_CHILDREN];
-        final boolean[] admitted = new boolean[MOST_CHILDREN];
+        /** Sets. */
+        int asleep;
+        int admitted;
         int waiters;
         /** Those who wait, as they were put there. */
         final int[] waiting = new int[MOST_CHILDREN];
@@ -833,8 +832,8 @@ public final class SmallRooms {
             last[count] = to;
             room[count] = NOWHERE;
             persons[count] = 0;
-            asleep[count] = false;
-            admitted[count] = false;
+            asleep = without(asleep, count);
+            admitted = without(admitted, count);
             count++;
             return count - 1;
         }
@@ -843,7 +842,7 @@ public final class SmallRooms {
             int set = 0;
             for (int child = 0; child < count; child++) {
                 if (room[child] == which) {
-                    set |= 1 << child;
+                    set = with(set, child);
                 }
             }
             return set;
@@ -856,8 +855,8 @@ public final class SmallRooms {
         void allOut() {
             for (int child = 0; child < count; child++) {
                 room[child] = NOWHERE;
-                asleep[child] = false;
             }
+            asleep = 0;
         }
 
         boolean areSiblings(int one, int other) {
@@ -870,7 +869,7 @@ public final class SmallRooms {
 
         boolean hasAdmittedSibling(int child) {
             for (int other = 0; other < count; other++) {
-                if (admitted[other] && areSiblings(child, other)) {
+                if (hasBit(admitted, other) && areSiblings(child, other)) {
                     return true;
                 }
             }
@@ -879,7 +878,7 @@ public final class SmallRooms {
 
         boolean isAwaited(int child, int day, int month) {
             boolean then = month >= first[child] && month <= last[child];
-            return admitted[child] && then && hasBit(sessions[child], day);
+            return hasBit(admitted, child) && then && hasBit(sessions[child], day);
         }
 
         boolean isWaiting(int child) {
@@ -941,8 +940,8 @@ public final class SmallRooms {
             System.arraycopy(other.last, 0, last, 0, MOST_CHILDREN);
             System.arraycopy(other.room, 0, room, 0, MOST_CHILDREN);
             System.arraycopy(other.persons, 0, persons, 0, MOST_CHILDREN);
-            System.arraycopy(other.asleep, 0, asleep, 0, MOST_CHILDREN);
-            System.arraycopy(other.admitted, 0, admitted, 0, MOST_CHILDREN);
+            asleep = other.asleep;
+            admitted = other.admitted;
         }
     }
 
@@ -1105,8 +1104,8 @@ public final class SmallRooms {
         void goOut(int child) {
             children.room[child] = NOWHERE;
             roll.lead(slot, child, WENT);
-            if (children.asleep[child]) {
-                children.asleep[child] = false;
+            if (hasBit(children.asleep, child)) {
+                children.asleep = without(children.asleep, child);
                 sleep.lead(slot, child, WOKE);
             }
         }
@@ -1114,7 +1113,7 @@ public final class SmallRooms {
         void beginDay() {
             slot = 0;
             children.allOut();
-            hands.allWell();
+            hands.ill = 0;
             roll.count = 0;
             sleep.count = 0;
         }
@@ -1212,7 +1211,7 @@ public final class SmallRooms {
             for (int child = 0; child < nursery.children.count; child++) {
                 if (nursery.children.room[child] == room) {
                     counted[ageGroup(nursery.ageNow(child))]++;
-                    counted[COUNTED_ASLEEP] += oneIf(nursery.children.asleep[child]);
+                    counted[COUNTED_ASLEEP] += oneIf(hasBit(nursery.children.asleep, child));
                     counted[COUNTED_ALL]++;
                 }
             }
