@@ -77,6 +77,31 @@ final class DaySentences extends Reading {
         due(1, x.day());
         due(0, x.day());
         dayKeeps();
+        dayOfAll();
+    }
+
+    private static void dayOfAll() {
+        fresh();
+        childrenIn(10);
+        hands(0, 1, 2, 3, 0, 1, 2);
+        for (int h = 0; h < 7; h++) {
+            x.place(h, 0);
+            x.ill(h);
+        }
+        for (int c = 0; c < 10; c++) {
+            x.sleeps(c, true);
+        }
+        due(10, x.all(3));
+        due(10, x.day());
+        due(0, x.now(0, 0));
+        for (int c = 0; c < 10; c++) {
+            due(0, x.childIs(c, 6));
+            due(c + 1, x.in(c, 0));
+        }
+        for (int h = 0; h < 7; h++) {
+            due(-1, x.place(h, 0));
+        }
+        due(127, x.now(0, 1));
     }
 
     private static void dayKeeps() {

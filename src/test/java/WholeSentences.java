@@ -432,6 +432,32 @@ final class WholeSentences extends Reading {
         laterFirst();
         textOverText();
         fortyAgain();
+        anotherDay();
+    }
+
+    /** What is led of a day that is taken back stands at the places of what is led of the day ahead. */
+    private static void anotherDay() {
+        fresh();
+        childrenIn(1);
+        x.sleeps(0, true);
+        x.slot(3);
+        x.over(0, 0);
+        x.day();
+        x.child(-10, -1, 31, 60);
+        x.in(1, 0);
+        x.in(0, 0);
+        x.sleeps(0, true);
+        x.look(0);
+        for (int i = 0; i < 6; i++) {
+            x.undo();
+        }
+        due(1, x.roll(2, 0));
+        due(0, x.roll(3, 0));
+        due(1, x.missed(0, false));
+        due(0, x.missed(0, true));
+        x.slot(59);
+        due(1, x.missed(0, false));
+        due(0, x.bill(0, 31, 0, true));
     }
 
     @SafeVarargs
