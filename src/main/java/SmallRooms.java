@@ -13,6 +13,8 @@ public final class SmallRooms {
     /** What a test of several findings tells if there is none. */
     private static final int FINE = 0;
 
+    /** The greatest int, written out since LANGUAGE.md lists only functions of Integer. */
+    private static final int GREATEST_INT = 0x7fffffff;
     private static final int NOWHERE = -1;
     private static final int NOBODY = -1;
     private static final int RIGHT = -1;
@@ -1202,7 +1204,7 @@ public final class SmallRooms {
         int needOf(Nursery nursery, int room) {
             countChildren(nursery, room);
             long need = nursery.ratio.wrongAt == RIGHT ? workOut(nursery.ratio) : usualNeed();
-            return (int) Math.max(0, Math.min(need, Integer.MAX_VALUE));
+            return (int) Math.max(0, Math.min(need, GREATEST_INT));
         }
 
         private void countChildren(Nursery nursery, int room) {
@@ -1274,7 +1276,7 @@ public final class SmallRooms {
         private static final int CHOICES = MOST_ROOMS + 1;
         private static final int[] DIGIT_OF_HAND = {46656, 7776, 1296, 216, 36, 6, 1};
         private static final int A_MOVE = 279936;
-        private static final int NO_WAY = Integer.MAX_VALUE;
+        private static final int NO_WAY = GREATEST_INT;
 
         private final int[] least = new int[SETS];
         private final int[] cost = new int[SETS];

@@ -587,7 +587,7 @@ final class PlainNursery {
         if (sheets[sheet] == null) return tell(MISSING);
         List<Integer> begins = new ArrayList<>();
         for (int b : sheets[sheet]) {
-            if (b < 0 || b + s.longSlots > 60) return tell(KIND);
+            if (b < 0 || b > 60 - s.longSlots) return tell(KIND);
             if (!begins.isEmpty() && begins.get(begins.size() - 1) > b) return tell(KIND);
             begins.add(b);
         }

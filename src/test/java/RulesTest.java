@@ -1,8 +1,11 @@
 import java.io.IOException;
 import java.lang.management.ManagementFactory;
+import java.lang.reflect.Field;
+import java.lang.reflect.Modifier;
 import java.nio.file.Files;
 import java.nio.file.Path;
 import java.util.List;
+import java.util.Set;
 import java.util.regex.Matcher;
 import java.util.regex.Pattern;
 
@@ -12,9 +15,15 @@ public final class RulesTest {
     private static final Pattern METHOD = Pattern.compile("^ {4,8}(?:(?:public|private|static) )*\\w+(?:\\[\\])? ?\\w*\\(([^)]*)\\) \\{$");
     private static final List<String> FORBIDDEN = List.of(
         "\\b(throw|throws|try|catch|finally|synchronized|assert|protected|package|volatile|native)\\b",
-        "->", "::", "\\bequals\\(", "\\bhashCode\\b", "\\btoString\\b", "Exact\\(", "\\bSystem\\.(?!arraycopy)",
-        "\\bMath\\.(?!max|min|floorDiv)", "\\bInteger\\.(?!bitCount|MAX_VALUE)", "\\b(double|float|Object|Random|Thread)\\b",
+        "->", "::", "\\bequals\\(", "\\bhashCode\\b", "\\btoString\\b", "Exact\\(",
+        "\\b(double|float|Object|Random|Thread)\\b",
         "static \\{", "\\bnew \\w+\\(\\) \\{");
+    /** What the class uses of the library: functions alone, no constants of it. */
+    private static final Pattern LIBRARY = Pattern.compile("\\b(?:Math|Integer|Long|Arrays|System|String|Character|Short|Byte|Boolean)\\.\\w+\\b\\(?");
+    private static final Set<String> LISTED = Set.of(
+        "Math.max(", "Math.min(", "Math.floorDiv(", "Integer.bitCount(", "Arrays.fill(", "System.arraycopy(");
+    private static final Set<Class<?>> CONSTANTS = Set.of(
+        int.class, long.class, boolean.class, char.class, String.class, int[].class, long[].class, char[].class, byte[].class);
 
     public static void main(String[] args) throws IOException {
         Due due = new Due("rules");
@@ -29,13 +38,40 @@ public final class RulesTest {
             }
             if (line.startsWith("import ")) {
                 due.is(line, 1, line.equals("import java.util.Arrays;") ? 1 : 0);
+            } else {
+                usesOnlyWhatIsListed(due, code, i + 1);
             }
             due.is("line " + (i + 1) + " has signs of 1 to 127", 1, line.chars().allMatch(c -> c > 0 && c < 128) ? 1 : 0);
             methodIsShort(due, lines, i);
         }
         due.is("at most twelve classes", 1, classes <= 12 ? 1 : 0);
+        fieldsAreFew(due, SmallRooms.class);
+        for (Class<?> inside : SmallRooms.class.getDeclaredClasses()) {
+            fieldsAreFew(due, inside);
+        }
         staysInItsRoom(due);
         due.end();
+    }
+
+    private static void usesOnlyWhatIsListed(Due due, String code, int line) {
+        Matcher used = LIBRARY.matcher(code);
+        while (used.find()) {
+            due.is("line " + line + " uses what is listed: " + used.group(), 1, LISTED.contains(used.group()) ? 1 : 0);
+        }
+    }
+
+    /** At most twenty fields beside the constants, which are final and of the types of rule 5. */
+    private static void fieldsAreFew(Due due, Class<?> of) {
+        int fields = 0;
+        for (Field field : of.getDeclaredFields()) {
+            if (!Modifier.isStatic(field.getModifiers())) {
+                fields++;
+                continue;
+            }
+            due.is(field + " is final", 1, Modifier.isFinal(field.getModifiers()) ? 1 : 0);
+            due.is(field + " is a constant", 1, CONSTANTS.contains(field.getType()) ? 1 : 0);
+        }
+        due.is(of + " has at most twenty fields", 1, fields <= 20 ? 1 : 0);
     }
 
     private static void methodIsShort(Due due, List<String> lines, int at) {
